@@ -110,6 +110,9 @@ public final class BookAndDrillTest {
         text("b", -101);
         text("b;", -101);
         text("bx", -101);
+        text("b/", -101);
+        text("b:", -101);
+        text("b5:", -102);
         text("b5x", -102);
         text("b5l2", -102);
         text("b100", -103);

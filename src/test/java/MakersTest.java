@@ -52,8 +52,13 @@ public final class MakersTest {
         checks.due("none, one", pads.like(none, one), 0);
         checks.due("none, none", pads.like(none, none), 0);
         checks.due("four, none", pads.like(long1, none), 0);
-        checks.due("like(6, 0)", pads.like(6, 0), BurntPads.UNKNOWN);
-        checks.due("like(0, 6)", pads.like(0, 6), BurntPads.UNKNOWN);
+        int makersZeroAndFifty = Checks.page(pads, 0, 0, 7, 5, 5);
+        checks.due("both a MADE it", pads.like(makersZeroAndFifty, Checks.page(pads, 0, 0, 1, 5)), 1);
+        checks.due("a 50 MADE it, a 0 did not", pads.like(makersZeroAndFifty, Checks.page(pads, 0, 0, 0, 55)), 0);
+        checks.due("a 0 MADE it, a 50 did not", pads.like(makersZeroAndFifty, Checks.page(pads, 0, 0, 0, 5)), 0);
+        checks.due("just a 0", pads.like(Checks.page(pads, 0, 0, 0, 1, 1), Checks.page(pads, 0, 0, 9, 1)), 1);
+        checks.due("like(12, 0)", pads.like(12, 0), BurntPads.UNKNOWN);
+        checks.due("like(0, 12)", pads.like(0, 12), BurntPads.UNKNOWN);
         checks.due("like(-1, 0)", pads.like(-1, 0), BurntPads.UNKNOWN);
     }
 
@@ -72,7 +77,8 @@ public final class MakersTest {
         checks.due("fifty makers, five groups", pads.next(Checks.page(pads, 0, 0, 0, 50, 50, 50, 50)), 50);
         checks.due("no maker of three", pads.next(Checks.page(pads, 0, 0, 0, 2, 5)), BurntPads.NONE);
         checks.due("no maker of four", pads.next(Checks.page(pads, 0, 0, 1, 2, 1, 3)), BurntPads.NONE);
-        checks.due("next(12)", pads.next(12), BurntPads.UNKNOWN);
+        checks.due("one maker, a 0", pads.next(Checks.page(pads, 0, 0, 0, 1, 1)), 1);
+        checks.due("next(13)", pads.next(13), BurntPads.UNKNOWN);
         checks.due("next(-1)", pads.next(-1), BurntPads.UNKNOWN);
     }
 }

@@ -129,11 +129,12 @@ public final class OtherSideTest {
         dueChance(pads, 0, 3, 1, 1);
         dueChance(pads, 1, 2, 1351, 10000);
         dueChance(pads, 2, 3, 1, 1);
+        sent(pads, 0, 0, 0, 0, 0, 0, 0, 0);
+        sent(pads, 1, 1, 1, 1, 1, 1, 1, 1, 1);
+        dueChance(pads, 4, 5, 5764801, 10000000000000000L);
         pads.code(2, 60);
         dueChance(pads, 0, 1, 3, 50);
         dueChance(pads, 1, 2, 9, 2500);
-        sent(pads, 0, 0, 0, 0, 0, 0, 0, 0);
-        sent(pads, 1, 1, 1, 1, 1, 1, 1, 1, 1);
         dueChance(pads, 4, 5, 6561, 39062500000000L);
         sent(pads, 1, 30);
         // 1 - (47 / 50)^2
@@ -229,6 +230,14 @@ public final class OtherSideTest {
         pads.weight(3, 1);
         checks.due("7, 3 weighs 4", pads.strip(0, 1, 0, 1), 7);
         checks.due("its v", pads.strip(0, 1, 0, 2), 3);
+        pads.weight(5, 2);
+        checks.due("5, 7 weighs 6", pads.strip(0, 1, 0, 1), 5);
+        pads.weight(3, 2);
+        checks.due("7, 3 weighs 6, too", pads.strip(0, 1, 0, 1), 5);
+        pads.weight(9, 1);
+        checks.due("3, 9 weighs 6, too", pads.strip(0, 1, 0, 1), 3);
+        pads.weight(5, 0);
+        pads.weight(3, 1);
         pads.weight(9, 99);
         checks.due("3, 9 weighs 200", pads.strip(0, 1, 0, 1), 3);
         pads.weight(5, 99);

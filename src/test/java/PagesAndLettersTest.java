@@ -302,6 +302,11 @@ public final class PagesAndLettersTest {
         dueWords(pads, 0, 6, 0, 1);
         dueWrong(pads, 0, 7);
         dueWords(pads, 0, 8, 0, 1);
+        Checks.drill(pads, "c;r1");
+        Checks.letter(pads, 0, 0, 0, 3);
+        dueWords(pads, 1, 0, 0, 3);
+        dueWrong(pads, 1, 1);
+        dueWrong(pads, 1, 3);
         Checks.drill(pads, "");
         dueWords(pads, 0, 1, 0, 1);
         dueWords(pads, 0, 3, 1);

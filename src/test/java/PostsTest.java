@@ -102,6 +102,7 @@ public final class PostsTest {
         dueParts(pads, 299, 99, 99, 0, 0, 0, 0, 198);
         dueParts(pads, 300, 100, 100, 0, 0, 0, 0, 200);
         dueParts(pads, 9999, 100, 100, 0, 0, 0, 0, 200);
+        dueParts(pads, 6, 2, 2, 0, 0, 0, 0, 4);
     }
 
     private static void promise14Parted() {

@@ -38,8 +38,10 @@ public final class SheetsAndPartsTest {
             checks.due("cell 59", pads.cell(k, 59, k % 3), 0);
             checks.due("cell 60", pads.cell(k, 60, k % 3), BurntPads.LOST);
         }
+        pads.put(0, 0, 4);
         pads.put(0, 3, 5);
         checks.due("a new row", pads.sheet(0, 2, 4), 1);
+        checks.due("is all 0", pads.cell(0, 0, 2), 0);
         checks.due("is all 0", pads.cell(0, 3, 2), 0);
         checks.due("is of another lane", pads.cell(0, 3, 0), BurntPads.LOST);
         checks.due("is shorter", pads.cell(0, 4, 2), BurntPads.LOST);
