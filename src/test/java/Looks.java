@@ -51,9 +51,14 @@ final class Looks {
         long count = see("many(2)");
         for (int x = 0; x < count; x++) {
             String call = "ofLetter(" + x + ", %d)";
-            seeEach(call, 0, 2);
+            long page = see(call.formatted(0));
+            see(call.formatted(1));
             seeEach(call, FIRST_GROUP, see(call.formatted(2)));
+            see("read(" + x + ", " + page + ", -1)");
         }
+        see("open(99)");
+        see("best(1)");
+        see("spread()");
     }
 
     private void seePosts() {
