@@ -18,9 +18,9 @@ import java.util.regex.Pattern;
 public final class LanguageTest {
     private static final Checks checks = new Checks("LanguageTest");
     private static final String FACE = "code(2) weight(2) drill(4) ofDrill(1) page(6) ofPage(2) letter(6) ofLetter(2)"
-        + " read(3) need(2) bag(3) out(2) last(2) beside(3) spread(0) chance(3) best(1) strip(4) with(4) crib(7) open(1)"
-        + " makers(2) like(2) next(1) sheet(3) lose(1) put(3) cell(3) copy(5) tell(1) mark(1) as(2) trace(0) fault(0)"
-        + " many(1)";
+        + " read(3) need(2) bag(3) out(2) last(2) beside(3) spread(0) chance(3) best(1) strip(4) with(4) crib(7)"
+        + " open(1) makers(2) like(2) next(1) sheet(3) lose(1) put(3) cell(3) copy(5) tell(1) mark(1) as(2) trace(0)"
+        + " fault(0) many(1)";
     private static final Set<String> CONSTANTS = Set.of("UNKNOWN", "OUTSIDE", "STATE", "FULL", "NONE", "LOST");
     private static final String[] RULED_OUT = {"throw", "throws", "try", "catch", "synchronized", "assert", "package",
         "hashCode", "toString", "double", "float"};
@@ -54,7 +54,7 @@ public final class LanguageTest {
         checks.holds("public and final", Modifier.isPublic(BurntPads.class.getModifiers())
             && Modifier.isFinal(BurntPads.class.getModifiers()));
         checks.due("constructors", BurntPads.class.getDeclaredConstructors().length, 1);
-        checks.due("public constructors without parameters", BurntPads.class.getConstructors()[0].getParameterCount(), 0);
+        checks.due("parameters of the public constructor", BurntPads.class.getConstructors()[0].getParameterCount(), 0);
     }
 
     private static void nothingElseIsSeen() {
@@ -130,7 +130,7 @@ public final class LanguageTest {
         checks.holds("the library " + used, allowed.containsAll(used));
     }
 
-    /** A method begins at a line that ends with "{" and stands as deep as members do; it ends with the next "}" there. */
+    /** A method begins at a line that ends with "{" and stands as deep as members do; the next "}" there ends it. */
     private static void methodsStayShort(String source) {
         String[] lines = source.split("\n");
         for (String indent : new String[] {"    ", "        "}) {

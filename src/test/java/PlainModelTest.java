@@ -22,7 +22,8 @@ public final class PlainModelTest {
 
     private static final int[] STRIDES = {1, 3, 7, 9, 11, 33, 49, 51};
     /** Those that seldom answer, where all numbers are drawn. */
-    private static final List<String> OFTEN = List.of("beside", "best", "cell", "chance", "copy", "read", "strip", "with");
+    private static final List<String> OFTEN = List.of("beside", "best", "cell", "chance", "copy", "read", "strip",
+        "with");
 
     private final Random random;
     private final String run;
