@@ -147,7 +147,7 @@ public final class ReadmeTest {
         }
         for (String command : commands) {
             if (command.equals(ALL_TESTS)) {
-                checks.holds(command + " can be run", Files.isExecutable(copy.resolve(command)));
+                checks.holds(command + " is a script", Files.readString(copy.resolve(command)).startsWith("#!"));
             } else if (namesWhatIsNotShared(command)) {
                 System.out.println("ReadmeTest: ../shared has no such file: " + command);
             } else {
